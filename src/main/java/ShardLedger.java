@@ -59,12 +59,14 @@ public final class ShardLedger {
     private final Shard[] shards;
 
     public ShardLedger(int liars) {
-        transactionBook = new TransactionBook();
-        requestBook = new RequestBook();
+        TransactionBook transactions = new TransactionBook();
+        RequestBook requests = new RequestBook();
         shards = new Shard[SHARDS];
         for (int s = 0; s < SHARDS; s++) {
-            shards[s] = new Shard(s, (liars >> s & 1) == 1, requestBook, transactionBook);
+            shards[s] = new Shard(s, (liars >> s & 1) == 1, requests, transactions);
         }
+        transactionBook = transactions;
+        requestBook = requests;
     }
 
     public int submit(int first, int second, int a) {
@@ -295,12 +297,12 @@ public final class ShardLedger {
         }
 
         boolean isInput(int t, int n) {
-            return has(t) && n != NONE && (firsts[t] == n || seconds[t] == n);
+            return t >= 0 && t < count && n != NONE && (firsts[t] == n || seconds[t] == n);
         }
 
-        /** An output of amount 0 is never made in a shard. */
+        /** An output of amount 0 is none that a COMMIT makes. */
         boolean isMade(int t, int n) {
-            return (n == evenOutput(t) || n == evenOutput(t) + 1) && amountOf(n) > 0;
+            return n >= FIRST_OUTPUTS && n < OUTPUTS && (n - FIRST_OUTPUTS) / 2 == t && amounts[n] > 0;
         }
 
         boolean hasInputIn(int t, int shard) {
@@ -352,7 +354,7 @@ public final class ShardLedger {
         }
 
         boolean isFor(int q, int shard) {
-            return has(q) && shards[q] == shard;
+            return q >= 0 && q < count && shards[q] == shard;
         }
 
         int kindOf(int q) {
@@ -488,7 +490,7 @@ public final class ShardLedger {
         boolean hasQuorumFor(int kind, int round, int request) {
             int found = 0;
             for (int sender = 0; sender < REPLICAS; sender++) {
-                Message message = find(kind, round, sender);
+                Message message = slots[slot(kind, round, sender)];
                 if (message != null && message.request == request) {
                     found++;
                 }
@@ -499,7 +501,7 @@ public final class ShardLedger {
         boolean hasQuorumOfAny(int kind, int round) {
             int found = 0;
             for (int sender = 0; sender < REPLICAS; sender++) {
-                if (find(kind, round, sender) != null) {
+                if (slots[slot(kind, round, sender)] != null) {
                     found++;
                 }
             }
@@ -613,14 +615,17 @@ public final class ShardLedger {
 
     /** The replicas of a shard and the messages among them. */
     private static final class Shard {
-        final MessageLog log = new MessageLog();
-        final Replica[] replicas = new Replica[REPLICAS];
+        final MessageLog log;
+        final Replica[] replicas;
 
         Shard(int number, boolean hasLiar, RequestBook requests, TransactionBook transactions) {
+            MessageLog common = new MessageLog();
+            replicas = new Replica[REPLICAS];
             for (int i = 0; i < REPLICAS; i++) {
                 Holdings holdings = new Holdings(number, transactions);
-                replicas[i] = new Replica(number, i, hasLiar && i == LIAR, requests, log, holdings);
+                replicas[i] = new Replica(number, i, hasLiar && i == LIAR, requests, common, holdings);
             }
+            log = common;
         }
 
         Replica replicaAt(int i) {
@@ -628,6 +633,7 @@ public final class ShardLedger {
         }
     }
 
+    /** One replica. Each of the six rules by which it acts is a method that tells whether it was done. */
     private static final class Replica {
         private final int shard;
         private final int number;
@@ -745,7 +751,7 @@ public final class ShardLedger {
 
         private int sealedRequest() {
             for (int r = 0; r < ROUNDS; r++) {
-                Message proposal = leadersProposal(r);
+                Message proposal = inbox.find(PROPOSAL, r, leaderOf(r));
                 if (proposal != null && isGood(proposal.request) && inbox.hasQuorumFor(SEAL, r, proposal.request)) {
                     return proposal.request;
                 }
@@ -764,7 +770,7 @@ public final class ShardLedger {
         }
 
         private boolean propose() {
-            if (step != 0 || leaderOf(round) != number || leadersProposal(round) != null) {
+            if (step != 0 || leaderOf(round) != number || inbox.find(PROPOSAL, round, number) != null) {
                 return false;
             }
             int q = candidate.request == NONE ? firstGood() : candidate.request;
@@ -779,7 +785,7 @@ public final class ShardLedger {
             if (step != 0) {
                 return false;
             }
-            Message proposal = leadersProposal(round);
+            Message proposal = inbox.find(PROPOSAL, round, leaderOf(round));
             if (proposal == null || !isBacked(proposal)) {
                 return false;
             }
@@ -791,7 +797,7 @@ public final class ShardLedger {
             if (step == 0 || candidate.round == round) {
                 return false;
             }
-            Message proposal = leadersProposal(round);
+            Message proposal = inbox.find(PROPOSAL, round, leaderOf(round));
             if (proposal == null || !isGood(proposal.request)) {
                 return false;
             }
@@ -852,10 +858,6 @@ public final class ShardLedger {
 
         private int leaderOf(int someRound) {
             return (height + someRound) % REPLICAS;
-        }
-
-        private Message leadersProposal(int someRound) {
-            return inbox.find(PROPOSAL, someRound, leaderOf(someRound));
         }
 
         private void enterRound(int newRound) {

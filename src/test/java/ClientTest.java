@@ -8,7 +8,8 @@ public final class ClientTest {
         commitsWhereSomethingIs();
         abortsWhereInputsAre();
         chainOfTransactions();
-        outputsInBothShards();
+        allInputsOrNone();
+        abortLeavesOthersLocks();
         questionsOfRequests();
         DUE.end();
     }
@@ -163,7 +164,7 @@ public final class ClientTest {
     }
 
     /** Of two inputs in one shard, of which one is locked already, none is locked. */
-    private static void outputsInBothShards() {
+    private static void allInputsOrNone() {
         ShardLedger x = new ShardLedger(0);
         x.submit(0, -1, 100);
         x.submit(2, 0, 7);
@@ -177,6 +178,23 @@ public final class ClientTest {
         outputs(x, 3, 1, 3, 1, 1);
         DUE.is("output 8", x.output(0, 2, 8), 1);
         DUE.is("value", x.value(0, 2), 109);
+    }
+
+    /** Transaction 0 still waits for shard 1 when the ABORT of 1 is executed in shard 0. */
+    private static void abortLeavesOthersLocks() {
+        ShardLedger x = new ShardLedger(0);
+        x.submit(0, 1, 30);
+        x.submit(0, 2, 30);
+        x.flood(0);
+        DUE.is("client", x.client(), 1);
+        states(x, 0, 2);
+        x.flood(0);
+        DUE.is("client", x.client(), 0);
+        states(x, 0, 4);
+        outputs(x, 2, 1, 1, 1);
+        x.flood(1);
+        DUE.is("client", x.client(), 2);
+        states(x, 1, 4);
     }
 
     private static void questionsOfRequests() {

@@ -52,7 +52,7 @@ public final class RandomRunsTest {
             run.noteReached(reached);
         }
         System.out.println("RandomRunsTest: " + acts + " acts; " + reached[0] + " proposals with a candidate, "
-            + reached[1] + " votes for none at a proposal, " + reached[2] + " messages of rounds above 0, "
+            + reached[1] + " votes for none, " + reached[2] + " messages of rounds above 0, "
             + reached[3] + " requests executed");
         due.end();
     }

@@ -10,6 +10,7 @@ public final class RoundsTest {
         joinsRoundOfTwo();
         proposalCountsForJoining();
         sealsOfAnEarlierRound();
+        ownSealIsTheThird();
         DUE.end();
     }
 
@@ -202,5 +203,20 @@ public final class RoundsTest {
         deliver(x, 0, 8);
         DUE.replica("executed", x, 0, 0, 1, 0, 0, -1, -1, -1, -1);
         DUE.is("executed(0, 0, 0)", x.executed(0, 0, 0), 0);
+    }
+
+    /** Replica 0 has two seals already when it gets its third vote, seals and executes at once. */
+    private static void ownSealIsTheThird() {
+        ShardLedger x = new ShardLedger(0);
+        x.submit(0, -1, 30);                                            // 0 proposal and 1 vote of replica 0
+        deliver(x, 1, 0);                                               // 2 vote of 1
+        deliver(x, 2, 0);                                               // 3 vote of 2
+        deliver(x, 1, 1, 3);                                            // 4 seal of 1
+        deliver(x, 2, 1, 2);                                            // 5 seal of 2
+        deliver(x, 0, 4, 5, 2);
+        DUE.replica("two votes, two seals", x, 0, 0, 0, 0, 1, -1, -1, -1, -1);
+        deliver(x, 0, 3);                                               // 6 seal of 0
+        DUE.message("its own seal", x, 0, 6, 2, 0, 0, 0, 0, -1);
+        DUE.replica("executed at once", x, 0, 0, 1, 0, 0, -1, -1, -1, -1);
     }
 }

@@ -66,6 +66,10 @@ public final class SubmitTest {
         DUE.is("one LOCK for two inputs of a shard", x.requests(), 4);
         request(x, 3, 1, 0, 2);
         DUE.is("transaction(2)", x.transaction(2), 0);
+        DUE.is("submit(1, 0, 5)", x.submit(1, 0, 5), 3);
+        DUE.is("output 0 as second input", x.requests(), 6);
+        request(x, 4, 0, 0, 3);
+        request(x, 5, 1, 0, 3);
     }
 
     private static void outputsOfTransactions() {
