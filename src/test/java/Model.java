@@ -116,8 +116,9 @@ final class Model {
         }
 
         void act() {
-            while (!out() && (one() || two() || proposes() || four() || five() || six())) {
-                acts++;
+            boolean acting = true;
+            while (acting) {
+                acting = !out() && (one() || two() || proposes() || four() || five() || six());
             }
         }
 
@@ -266,7 +267,6 @@ final class Model {
     final List<Integer> amount = new ArrayList<>(List.of(100, 100, 100, 100));
     final List<List<Msg>> sent = List.of(new ArrayList<>(), new ArrayList<>());
     final List<List<Rep>> reps = List.of(new ArrayList<>(), new ArrayList<>());
-    long acts;
 
     Model(int liars) {
         for (int s = 0; s < 2; s++) {
