@@ -15,6 +15,8 @@ public final class ActingEdgesTest {
         executedBeforeAnythingElse();
         afterExecution();
         joinsEachRoundAbove();
+        messagesOfEachKind();
+        joinsWithItsLock();
         oneSenderIsNotTwo();
         roundsNotAbove();
         nothingToPropose();
@@ -230,8 +232,10 @@ public final class ActingEdgesTest {
         DUE.replica("executed", x, 0, 3, 1, 0, 0, -1, -1, -1, -1);
         DUE.is("without a vote", x.messages(0), 7);
         ShardLedger y = sleptThrough().play();
-        deliver(y, 3, 0, 1, 2, 4, 5);
-        DUE.replica("its own vote is the third, its own seal too", y, 0, 3, 1, 0, 0, -1, -1, -1, -1);
+        deliver(y, 3, 1, 2, 4, 5);
+        DUE.replica("two votes and two seals", y, 0, 3, 0, 0, 0, -1, -1, -1, -1);
+        deliver(y, 3, 0);
+        DUE.replica("its own vote is the third, and its own seal, too", y, 0, 3, 1, 0, 0, -1, -1, -1, -1);
         DUE.message("its vote", y, 0, 7, 1, 3, 0, 0, 0, -1);
         DUE.message("its seal", y, 0, 8, 2, 3, 0, 0, 0, -1);
         DUE.is("messages(0)", y.messages(0), 9);
@@ -269,6 +273,59 @@ public final class ActingEdgesTest {
             deliver(y, 3, 6 * r + 2);
             DUE.replica("two senders, at step 1", y, 0, 3, 0, r, 0, -1, -1, -1, -1);
         }
+    }
+
+    /** Of each kind one is enough: the seal of 0 with round 1, and then a vote, a seal or the leader's proposal. */
+    private static void messagesOfEachKind() {
+        DUE.sentence("For some round above r messages with it of two different senders");
+        Scene scene = Scene.of(0, "sleep(0, 3, true)").failRound(0, 2).then("submit(0, -1, 50)", "flood(0)", "sleep(0, 3, false)");
+        ShardLedger x = scene.play();
+        for (int k = 6; k < 13; k++) {
+            if (x.message(0, k, 0) == 2 && x.message(0, k, 1) == 0) {
+                joinsWithSeal(scene, k);
+            }
+        }
+        DUE.is("messages(0)", x.messages(0), 13);
+    }
+
+    private static void joinsWithSeal(Scene scene, int seal) {
+        for (int k = 6; k < 13; k++) {
+            ShardLedger x = scene.play();
+            deliver(x, 3, seal);
+            DUE.replica("the seal of one sender", x, 0, 3, 0, 0, 0, -1, -1, -1, -1);
+            if (x.message(0, k, 1) != 0) {
+                deliver(x, 3, k);
+                // The proposal is voted for at once.
+                int step = x.message(0, k, 0) == 0 ? 1 : 0;
+                DUE.replica("and message " + k + " of another", x, 0, 3, 0, 1, step, -1, -1, -1, -1);
+            }
+        }
+    }
+
+    /** Replica 1 alone has sealed in round 0, and the others have gone on to round 1, which it leads. */
+    private static void joinsWithItsLock() {
+        DUE.sentence("the lowest of such rounds becomes its round; step 0");
+        ShardLedger x = new ShardLedger(0);
+        x.submit(0, -1, 30);                                            // 0 proposal and 1 vote of replica 0
+        deliver(x, 1, 0);                                               // 2 vote of 1
+        deliver(x, 2, 0);                                               // 3 vote of 2
+        deliver(x, 1, 1, 3);                                            // 4 seal of 1
+        tick(x, 3);                                                     // 5 vote for none of 3
+        deliver(x, 0, 2, 5);
+        tick(x, 0);                                                     // 6 seal of none of 0
+        deliver(x, 2, 1, 5);
+        tick(x, 2);                                                     // 7 seal of none of 2
+        deliver(x, 3, 1, 2);
+        tick(x, 3);                                                     // 8 seal of none of 3
+        deliver(x, 0, 7, 8);
+        deliver(x, 2, 6, 8);
+        tick(x, 0, 2, 0, 2);                                            // 9 and 10 votes for none of 0 and 2 in round 1
+        deliver(x, 1, 9);
+        DUE.replica("one sender", x, 0, 1, 0, 0, 2, 0, 0, 0, 0);
+        deliver(x, 1, 10);                                              // 11 proposal and 12 vote of 1
+        DUE.replica("lock and candidate stay", x, 0, 1, 0, 1, 1, 0, 0, 0, 0);
+        DUE.message("it proposes its candidate", x, 0, 11, 0, 1, 0, 1, 0, 0);
+        DUE.message("and votes for its lock", x, 0, 12, 1, 1, 0, 1, 0, -1);
     }
 
     private static void oneSenderIsNotTwo() {

@@ -245,8 +245,25 @@ public final class ClientEdgesTest {
         DUE.message("votes", x, 0, 10, 1, 1, 1, 0, 1, -1);
         DUE.is("messages(1)", x.messages(1), 2);
         DUE.message("the leader of height 0", x, 1, 0, 0, 0, 0, 0, 2, -1);
+        inTheirOrder(scene);
         DUE.answer(scene.then("sleep(0, 1, true)", "client()"), "messages(0)", 9);
         DUE.answer(scene.then("sleep(0, 1, true)", "client()", "sleep(0, 1, false)"), "messages(0)", 11);
+    }
+
+    /** At height 1 replica 1 leads round 0, in which it slept while the others came to round 2, which 3 leads. */
+    private static void inTheirOrder(Scene height1) {
+        Scene scene = height1.then("sleep(0, 1, true)");
+        for (int r = 0; r < 2; r++) {
+            scene = scene.then("tick(0, 0)", "tick(0, 2)", "tick(0, 3)", "flood(0)", "tick(0, 0)", "tick(0, 2)", "tick(0, 3)");
+        }
+        ShardLedger x = scene.then("sleep(0, 1, false)").play();
+        int sent = x.messages(0);
+        DUE.is("client()", x.client(), 2);
+        DUE.message("first the proposal of 1", x, 0, sent, 0, 1, 1, 0, 1, -1);
+        DUE.message("and its vote", x, 0, sent + 1, 1, 1, 1, 0, 1, -1);
+        DUE.message("then the proposal of 3", x, 0, sent + 2, 0, 3, 1, 2, 1, -1);
+        DUE.message("and its vote", x, 0, sent + 3, 1, 3, 1, 2, 1, -1);
+        DUE.is("messages(0)", x.messages(0), sent + 4);
     }
 
     private static void howManyItMade() {

@@ -20,6 +20,7 @@ public final class DeliverEdgesTest {
         floodInOrder();
         floodOfThoseThatCanTake();
         floodAgain();
+        floodOfThoseSentMeanwhile();
         floodIsManyDeliveries();
         DUE.end();
     }
@@ -228,6 +229,30 @@ public final class DeliverEdgesTest {
         DUE.refused(flooded, "deliver(0, 5, 1)", 0);
         DUE.refused(flooded, "deliver(0, 5, 2)", 0);
         DUE.refused(flooded, "flood(0)", 0);
+    }
+
+    /**
+     * 1 has gone on to height 1 with the liar's seal, and has proposed there (6) and voted (7), before 0 has sent the
+     * seal (8) that 2 needs. In the first round of the flood 0 votes at height 1 (9), 2 goes on, and 1 seals with the
+     * votes of 0 and of the liar (10); 6 and 7 come to 2 only in the second one.
+     */
+    private static void floodOfThoseSentMeanwhile() {
+        DUE.sentence("Goes through all messages of a shard, in order (those sent meanwhile, too)");
+        Scene scene = Scene.of(1, "submit(0, -1, 100)", "submit(2, -1, 100)", "deliver(0, 0, 1)", "deliver(0, 0, 2)",
+            "deliver(0, 1, 1)", "deliver(0, 3, 1)", "deliver(0, 1, 2)", "deliver(0, 2, 2)", "deliver(0, 5, 1)",
+            "lie(0, 2, 0, 0, 1)", "lie(0, 1, 0, 1, 1)", "deliver(0, 4, 2)", "deliver(0, 2, 0)", "deliver(0, 3, 0)",
+            "deliver(0, 4, 0)", "deliver(0, 5, 0)");
+        DUE.message("proposal of 1", scene.play(), 0, 6, 0, 1, 1, 0, 1, -1);
+        DUE.message("seal of 0", scene.play(), 0, 8, 2, 0, 0, 0, 0, -1);
+        DUE.answer(scene, "messages(0)", 9);
+        DUE.answer(scene, "flood(0)", 16);
+        ShardLedger x = scene.then("flood(0)").play();
+        DUE.message("vote of 0", x, 0, 9, 1, 0, 1, 0, 1, -1);
+        DUE.message("seal of 1", x, 0, 10, 2, 1, 1, 0, 1, -1);
+        DUE.message("vote of 2", x, 0, 11, 1, 2, 1, 0, 1, -1);
+        DUE.message("seal of 2", x, 0, 12, 2, 2, 1, 0, 1, -1);
+        DUE.message("seal of 0", x, 0, 13, 2, 0, 1, 0, 1, -1);
+        DUE.is("messages(0)", x.messages(0), 14);
     }
 
     private static void floodIsManyDeliveries() {

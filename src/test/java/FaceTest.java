@@ -7,7 +7,7 @@ import java.util.List;
 import java.util.Set;
 import java.util.TreeSet;
 
-/** The public face: every member of the document and no other that is not private. */
+/** The public face: every member of the document and no other that is not private; and what LANGUAGE.md asks of all. */
 public final class FaceTest {
     private static final List<String> FACE = List.of(
         "int submit(int, int, int)", "int client()", "boolean deliver(int, int, int)", "int flood(int)",
@@ -41,8 +41,23 @@ public final class FaceTest {
         for (Class<?> inside : ShardLedger.class.getDeclaredClasses()) {
             boolean hidden = !Modifier.isPublic(inside.getModifiers()) && !Modifier.isProtected(inside.getModifiers());
             due.yes(inside.getName() + " is hidden and static", hidden && Modifier.isStatic(inside.getModifiers()));
+            members(due, inside);
         }
+        members(due, ShardLedger.class);
         due.end();
+    }
+
+    /** Rules 1, 5 and 11 of LANGUAGE.md. */
+    private static void members(Due due, Class<?> each) {
+        for (Method m : each.getDeclaredMethods()) {
+            boolean takesAName = Modifier.isPrivate(m.getModifiers()) && FACE.stream().anyMatch(f -> f.contains(" " + m.getName() + "("));
+            due.no(each.getName() + "." + m.getName() + " bears a name of the face", takesAName);
+            due.yes(each.getName() + "." + m.getName() + " takes at most seven parameters", m.getParameterCount() <= 7);
+        }
+        for (Field f : each.getDeclaredFields()) {
+            int is = f.getModifiers();
+            due.yes(each.getName() + "." + f.getName() + " is final if static", !Modifier.isStatic(is) || Modifier.isFinal(is));
+        }
     }
 
     private static boolean isOpen(Member member) {

@@ -18,6 +18,7 @@ public final class LieEdgesTest {
         noRequestInAProposal();
         suchALieAgain();
         anotherKindHeightOrRound();
+        everyLieAtEveryHeight();
         withTheHearersHeight();
         withoutACandidate();
         takesAndActs();
@@ -156,6 +157,24 @@ public final class LieEdgesTest {
         DUE.answer(round1, "replica(0, 0, 1)", 1);
         DUE.refused(round1, "lie(0, 1, 0, -1, 0)", 0);
         DUE.answer(round1, "lie(0, 1, 1, -1, 0)", 1);
+    }
+
+    /** As many lies as one object can be told in its calls: all that there are, at seven heights. */
+    private static void everyLieAtEveryHeight() {
+        DUE.sentence("such a lie of that kind, height and round");
+        ShardLedger x = new ShardLedger(1);
+        for (int h = 0; h < 7; h++) {
+            x.submit(0, -1, 50);
+            for (int n = 0; n < 54; n++) {
+                int kind = n / 18;
+                // At height 3 the liar leads round 0, and proposes there what is to be executed.
+                DUE.yes("lie " + n + " at height " + h, x.lie(0, kind, n / 3 % 6, kind == 0 ? h : -1, n % 3));
+            }
+            x.flood(0);
+        }
+        for (int i = 0; i < 4; i++) {
+            DUE.is("height", x.replica(0, i, 0), i < 3 ? 7 : 0);
+        }
     }
 
     private static void withTheHearersHeight() {

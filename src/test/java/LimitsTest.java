@@ -3,7 +3,8 @@ import java.lang.management.ManagementFactory;
 /** The longest way that a ledger can go, and the room that it takes. */
 public final class LimitsTest {
     private static final Due DUE = new Due("LimitsTest");
-    private static final long BYTES = 4000000;
+    // The room of a run: 7.3 million fields and elements, of four bytes at least.
+    private static final long BYTES = 4L * 7300000;
 
     public static void main(String[] args) {
         everyRequest();

@@ -26,6 +26,7 @@ public final class RoundsTest {
 
     /** Replica 1 alone sees three votes in round 0, and proposes with them in round 1. */
     private static void candidateIsCarriedOn() {
+        DUE.sentence("when it has a candidate, it proposes that, with the candidate's round");
         ShardLedger x = new ShardLedger(0);
         x.submit(0, -1, 30);                                            // 0 proposal and 1 vote of replica 0
         deliver(x, 1, 0);                                               // 2 vote of 1
@@ -83,6 +84,7 @@ public final class RoundsTest {
     }
 
     private static void lockKeepsFromAnother() {
+        DUE.sentence("it has no lock, or the lock is q, or c is not -1 and the lock's round is not above c; for none otherwise");
         ShardLedger x = lockedOnAnother();
         DUE.message("no candidate: the lowest request", x, 0, 24, 0, 0, 0, 4, 0, -1);
         DUE.message("0 has no lock", x, 0, 25, 1, 0, 0, 4, 0, -1);
@@ -92,6 +94,7 @@ public final class RoundsTest {
     }
 
     private static void laterCandidateUnlocks() {
+        DUE.sentence("c is not -1 and the lock's round is not above c");
         ShardLedger x = lockedOnAnother();
         deliver(x, 1, 25, 27);
         tick(x, 1);                                                     // 28 seal of none of 1
@@ -119,6 +122,7 @@ public final class RoundsTest {
     }
 
     private static void earlierCandidateDoesNotUnlock() {
+        DUE.sentence("c is not -1 and the lock's round is not above c");
         ShardLedger x = lockedOnAnother();
         deliver(x, 2, 25);
         x.lie(0, 1, 4, 0, 2);                                           // 28 seal of 2
@@ -145,6 +149,7 @@ public final class RoundsTest {
     }
 
     private static void joinsRoundOfTwo() {
+        DUE.sentence("For some round above r messages with it of two different senders");
         ShardLedger x = new ShardLedger(0);
         x.sleep(0, 3, true);
         LieTest.toRound(x, 2);                                          // 0 to 11
@@ -166,6 +171,7 @@ public final class RoundsTest {
     }
 
     private static void proposalCountsForJoining() {
+        DUE.sentence("For some round above r messages with it of two different senders");
         ShardLedger x = new ShardLedger(0);
         x.sleep(0, 3, true);
         LieTest.toRound(x, 1);                                          // 0 to 5
@@ -182,6 +188,7 @@ public final class RoundsTest {
 
     /** Replica 0 goes on to round 1; then the seals of round 0 come. */
     private static void sealsOfAnEarlierRound() {
+        DUE.sentence("For some round (the lowest of these) a proposal of a good request and three seals for that");
         ShardLedger x = new ShardLedger(0);
         x.submit(0, -1, 30);                                            // 0 proposal and 1 vote of replica 0
         deliver(x, 1, 0);                                               // 2 vote of 1
@@ -207,6 +214,7 @@ public final class RoundsTest {
 
     /** Replica 0 has two seals already when it gets its third vote, seals and executes at once. */
     private static void ownSealIsTheThird() {
+        DUE.sentence("as long as one of these can be done, the first that can is done");
         ShardLedger x = new ShardLedger(0);
         x.submit(0, -1, 30);                                            // 0 proposal and 1 vote of replica 0
         deliver(x, 1, 0);                                               // 2 vote of 1
