@@ -5,6 +5,7 @@ public final class TermsEdgesTest {
     private static final int FULL = ShardLedger.FULL;
 
     public static void main(String[] args) {
+        constants();
         outputsOfShards();
         locksInTheShardOfAnInput();
         outputsAtTheBeginning();
@@ -13,19 +14,30 @@ public final class TermsEdgesTest {
         outputsOfTransactions();
         amountsOfOutputs();
         outputShards();
+        requestsInOrder();
         knownAsSoonAsMade();
         theFaultyTakesNothing();
         theFaultyDoesNothing();
         theSleeperTakesAndDoesNothing();
+        allAtTheBeginning();
+        roundsAndSteps();
         lockOfWhatIsUnspent();
         lockOfWhatIsLocked();
         lockOfWhatIsSpent();
         lockOfWhatIsNotThere();
         commitOfAmountsAboveZero();
         abortOfItsOwnLocksAlone();
+        messagesInOrder();
         messagesOfNoRequest();
         ownMessagesAreTaken();
         DUE.end();
+    }
+
+    private static void constants() {
+        DUE.sentence("A number is not as said.");
+        DUE.is("BAD", ShardLedger.BAD, -1);
+        DUE.sentence("There are 8 transactions.");
+        DUE.is("FULL", ShardLedger.FULL, -2);
     }
 
     private static void outputsOfShards() {
@@ -158,6 +170,18 @@ public final class TermsEdgesTest {
         DUE.request(submit, x, locks + 1, many == 2 ? new int[] {1, 1, 0, 0} : new int[] {-2});
     }
 
+    private static void requestsInOrder() {
+        DUE.sentence("each is for a shard, of a kind (0 LOCK, 1 COMMIT, 2 ABORT), about a transaction t");
+        ShardLedger x = Scene.of(0, "submit(1, 0, 50)", "submit(0, -1, 50)", "flood(0)", "flood(1)", "client()").play();
+        DUE.request("LOCK", x, 0, 0, 0, 0, 1);
+        DUE.request("LOCK", x, 1, 1, 0, 0, 1);
+        DUE.request("LOCK", x, 2, 0, 0, 1, 2);
+        DUE.request("COMMIT", x, 3, 0, 1, 0, 0);
+        DUE.request("COMMIT", x, 4, 1, 1, 0, 0);
+        DUE.request("ABORT", x, 5, 0, 2, 1, 0);
+        DUE.is("requests()", x.requests(), 6);
+    }
+
     private static void knownAsSoonAsMade() {
         DUE.sentence("Every replica of the shard knows it as soon as it is made.");
         for (int s = 0; s < 2; s++) {
@@ -217,6 +241,44 @@ public final class TermsEdgesTest {
         DUE.answer(awake, "deliver(0, 0, 1)", 1);
         DUE.answer(awake, "tick(0, 1)", 1);
         DUE.answer(awake, "lie(0, 1, 0, 0, 1)", 1);
+    }
+
+    private static void allAtTheBeginning() {
+        DUE.sentence("At the beginning all are 0, lock and candidate none, outputs 0 .. 3 unspent.");
+        for (int n = 0; n < 32; n++) {
+            Scene scene = Scene.of(n / 8);
+            int s = n / 4 % 2;
+            DUE.replica("beginning", scene.play(), s, n % 4, 0, 0, 0, -1, -1, -1, -1);
+            for (int output = s; output < 20; output += 2) {
+                DUE.answer(scene, "output(" + s + ", " + n % 4 + ", " + output + ")", output < 4 ? 1 : 0);
+            }
+        }
+    }
+
+    /** Every step of every round, and no further. */
+    private static void roundsAndSteps() {
+        DUE.sentence("a ROUND 0 .. 5, a STEP 0 .. 2");
+        ShardLedger x = new ShardLedger(2);
+        for (int r = 0; r < 6; r++) {
+            for (int i = 0; i < 3; i++) {
+                DUE.replica("step 0", x, 1, i, 0, r, 0, -1, -1, -1, -1);
+                DUE.yes("tick", x.tick(1, i));
+                DUE.replica("step 1", x, 1, i, 0, r, 1, -1, -1, -1, -1);
+            }
+            DUE.is("flood(1)", x.flood(1), 12);
+            for (int i = 0; i < 3; i++) {
+                DUE.replica("step 2", x, 1, i, 0, r, 2, -1, -1, -1, -1);
+                DUE.is("tick", x.tick(1, i) ? 1 : 0, r < 5 ? 1 : 0);
+            }
+        }
+        // Nothing leads out of the last step of the last round but an execution; and no message has round 6.
+        for (int i = 0; i < 3; i++) {
+            DUE.yes("vote", x.lie(1, 1, 5, -1, i));
+            DUE.yes("seal", x.lie(1, 2, 5, -1, i));
+            DUE.no("vote with round 6", x.lie(1, 1, 6, -1, i));
+            DUE.no("tick", x.tick(1, i));
+            DUE.replica("the end", x, 1, i, 0, 5, 2, -1, -1, -1, -1);
+        }
     }
 
     /** The results of all LOCKs of a run in shard 0, and then what replica 0 keeps of outputs 0 and 2. */
@@ -308,6 +370,22 @@ public final class TermsEdgesTest {
         DUE.answer(waiting, "request(3, 3)", 1);
         DUE.answer(waiting, "output(0, 0, 0)", 2);
         DUE.answer(waiting, "output(0, 0, 2)", 1);
+    }
+
+    private static void messagesInOrder() {
+        DUE.sentence("as they are sent; each has a kind (0 PROPOSAL, 1 VOTE, 2 SEAL), a sender, a height, a round");
+        Scene scene = Scene.of(0).toRound(1, 3, 2).then("tick(1, 3)", "submit(3, -1, 50)", "tick(1, 0)", "deliver(1, 17, 1)");
+        ShardLedger x = scene.play();
+        DUE.is("messages(0)", x.messages(0), 0);
+        DUE.is("messages(1)", x.messages(1), 21);
+        DUE.message("vote for none of 0", x, 1, 0, 1, 0, 0, 0, -1, -1);
+        DUE.message("seal of none of 2", x, 1, 4, 2, 2, 0, 0, -1, -1);
+        DUE.message("seal of none of 1", x, 1, 15, 2, 1, 0, 1, -1, -1);
+        DUE.message("vote for none of 3", x, 1, 16, 1, 3, 0, 2, -1, -1);
+        DUE.message("proposal of 2", x, 1, 17, 0, 2, 0, 2, 0, -1);
+        DUE.message("vote of 2", x, 1, 18, 1, 2, 0, 2, 0, -1);
+        DUE.message("vote for none of 0", x, 1, 19, 1, 0, 0, 2, -1, -1);
+        DUE.message("vote of 1", x, 1, 20, 1, 1, 0, 2, 0, -1);
     }
 
     private static void messagesOfNoRequest() {
