@@ -474,11 +474,15 @@ public final class ShardLedger {
         private final Message[] slots = new Message[MESSAGE_KINDS * ROUNDS * REPLICAS];
 
         void put(Message message) {
-            slots[slot(message.kind, message.round, message.sender)] = message;
+            int at = slot(message.kind, message.round, message.sender);
+            if (at >= 0 && at < slots.length) {
+                slots[at] = message;
+            }
         }
 
         Message find(int kind, int round, int sender) {
-            return slots[slot(kind, round, sender)];
+            int at = slot(kind, round, sender);
+            return at >= 0 && at < slots.length ? slots[at] : null;
         }
 
         void clear() {
@@ -490,7 +494,7 @@ public final class ShardLedger {
         boolean hasQuorumFor(int kind, int round, int request) {
             int found = 0;
             for (int sender = 0; sender < REPLICAS; sender++) {
-                Message message = slots[slot(kind, round, sender)];
+                Message message = find(kind, round, sender);
                 if (message != null && message.request == request) {
                     found++;
                 }
@@ -501,7 +505,7 @@ public final class ShardLedger {
         boolean hasQuorumOfAny(int kind, int round) {
             int found = 0;
             for (int sender = 0; sender < REPLICAS; sender++) {
-                if (slots[slot(kind, round, sender)] != null) {
+                if (find(kind, round, sender) != null) {
                     found++;
                 }
             }
